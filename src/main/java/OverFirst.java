@@ -1012,6 +1012,10 @@ public final class OverFirst {
             return way == OVER ? corner + 1 : corner + WIDEST;
         }
 
+        int streetsHome(int corner) {
+            return wide - 1 - corner % WIDEST + high - 1 - corner / WIDEST;
+        }
+
         boolean isBeyond(int corner, int way) {
             return way == OVER ? corner % WIDEST >= wide - 1 : corner / WIDEST >= high - 1;
         }
@@ -1346,6 +1350,7 @@ public final class OverFirst {
         /** How far a light's clock stands ahead of the one told: of a light that is watched, or by a night's draws. */
         private final int[] ahead = new int[CORNERS];
         private final int[] drawn = new int[CORNERS];
+        private final int[] periods = new int[CORNERS];
         private boolean asked;
         private Town town;
         private long known;
@@ -1368,35 +1373,57 @@ public final class OverFirst {
             goer = who;
             atWorst = worst;
             values.clear((town.home() + 1) * town.common);
+            findPeriods();
+        }
+
+        /** From a corner on all is alike again once the clocks that one can come to stand as before; hidden ones don't count. */
+        private void findPeriods() {
+            int home = town.home();
+            periods[home] = 1;
+            for (int corner = home - 1; corner >= 0; corner--) {
+                int period = town.isTimed(corner) && !hides(corner) ? town.round[corner] : 1;
+                for (int way = OVER; way <= ON; way++) {
+                    if (town.isOpen(corner, way)) {
+                        period = commonMultiple(period, periods[town.after(corner, way)]);
+                    }
+                }
+                periods[corner] = period;
+            }
         }
 
         boolean hides(int corner) {
             return town.kind[corner] == HIDDEN && (known >> corner & 1) == 0;
         }
 
-        /** All lights stand again as they do after the least common multiple, so the second counts modulo that. */
         int valueAt(int corner, int anySecond) {
             if (corner == town.home()) {
                 return 0;
             }
-            int second = modulo(anySecond, town.common);
+            int second = modulo(anySecond, periods[corner]);
             int cell = corner * town.common + second;
             if (values.holds(corner, cell)) {
                 return values.number(cell);
             }
-            int value = hides(corner)
-                ? valueOverRound(corner, second)
-                : valueSeen(corner, second, second + ahead[corner]);
+            int value;
+            if (hides(corner)) {
+                value = goer == BEST ? bestOverRound(corner, second) : valueOverRound(corner, second);
+            } else {
+                int seen = second + ahead[corner];
+                value = valueSeen(corner, second, town.waitFor(corner, OVER, seen), town.waitFor(corner, ON, seen));
+            }
             values.put(corner, cell, value);
             return value;
         }
 
         private int valueOverRound(int corner, int second) {
             int round = town.round[corner];
+            int span = town.span[corner];
             int sum = 0;
             int most = 0;
-            for (int seen = 0; seen < round; seen++) {
-                int value = valueSeen(corner, second, seen);
+            for (int since = 0; since < round; since++) {
+                int overWait = since < span ? 0 : round - since;
+                int onWait = since < span ? span - since : 0;
+                int value = valueSeen(corner, second, overWait, onWait);
                 if (value == NONE) {
                     return NONE;
                 }
@@ -1406,67 +1433,114 @@ public final class OverFirst {
             return atWorst || round < 1 ? most : sum / round;
         }
 
-        private int valueSeen(int corner, int second, int seen) {
-            if (goer != BEST) {
-                return valueBy(corner, second, seen, plainWay(corner, seen));
+        /** One way is always green, and what that takes is the same at every such second. */
+        private int bestOverRound(int corner, int second) {
+            int round = town.round[corner];
+            int span = town.span[corner];
+            int overNow = valueBy(corner, OVER, second, 0);
+            int onNow = valueBy(corner, ON, second, 0);
+            int sum = 0;
+            int most = 0;
+            for (int since = 0; since < round; since++) {
+                int value = since < span
+                    ? lesserBy(overNow, corner, ON, second, span - since)
+                    : lesserBy(onNow, corner, OVER, second, round - since);
+                if (value == NONE) {
+                    return NONE;
+                }
+                sum += value;
+                most = Math.max(most, value);
             }
-            int over = valueBy(corner, second, seen, OVER);
-            int on = valueBy(corner, second, seen, ON);
-            return on == NONE || over != NONE && over <= on ? over : on;
+            return atWorst || round < 1 ? most : sum / round;
         }
 
-        private int valueBy(int corner, int second, int seen, int way) {
+        private int valueSeen(int corner, int second, int overWait, int onWait) {
+            if (goer == BEST) {
+                int over = valueBy(corner, OVER, second, overWait);
+                return lesserBy(over, corner, ON, second, onWait);
+            }
+            int way = plainWay(corner, overWait, onWait);
+            return valueBy(corner, way, second, way == OVER ? overWait : onWait);
+        }
+
+        /** What another way takes, if it is less; where the streets alone would make it no less it isn't reckoned. */
+        private int lesserBy(int found, int corner, int way, int second, int wait) {
+            int least = wait + town.streetsHome(corner) * town.setting[WALKING];
+            if (found != NONE && found <= least * unit()) {
+                return found;
+            }
+            int other = valueBy(corner, way, second, wait);
+            return found == NONE || other != NONE && other < found ? other : found;
+        }
+
+        private int valueBy(int corner, int way, int second, int wait) {
             if (!town.isOpen(corner, way)) {
                 return NONE;
             }
-            int spent = town.waitFor(corner, way, seen) + town.setting[WALKING];
+            int spent = wait + town.setting[WALKING];
             int rest = valueAt(town.after(corner, way), second + spent);
-            return rest == NONE ? NONE : rest + (atWorst ? spent : 1000 * spent);
+            return rest == NONE ? NONE : rest + spent * unit();
+        }
+
+        private int unit() {
+            return atWorst ? 1 : 1000;
         }
 
         int wayOf(int corner, int second, int seen) {
+            int overWait = town.waitFor(corner, OVER, seen);
+            int onWait = town.waitFor(corner, ON, seen);
             if (goer != BEST) {
-                return plainWay(corner, seen);
+                return plainWay(corner, overWait, onWait);
             }
-            int over = valueBy(corner, second, seen, OVER);
-            int on = valueBy(corner, second, seen, ON);
+            int over = valueBy(corner, OVER, second, overWait);
+            int on = valueBy(corner, ON, second, onWait);
             if (over == NONE && on == NONE) {
                 return NONE;
             }
             return on == NONE || over != NONE && over <= on ? OVER : ON;
         }
 
-        private int plainWay(int corner, int seen) {
+        private int plainWay(int corner, int overWait, int onWait) {
             boolean over = town.isOpen(corner, OVER);
             boolean on = town.isOpen(corner, ON);
             if (!over || !on) {
                 return over ? OVER : on ? ON : NONE;
             }
-            if (goer == OVER_FIRST || goer == ON_FIRST) {
-                return goer == OVER_FIRST ? OVER : ON;
+            switch (goer) {
+                case OVER_FIRST: return OVER;
+                case ON_FIRST: return ON;
+                case WHICHEVER: return overWait <= onWait ? OVER : ON;
+                default: return town.ruleSaysOver(goer - FIRST_RULE, corner, overWait, onWait) ? OVER : ON;
             }
-            int overWait = town.waitFor(corner, OVER, seen);
-            int onWait = town.waitFor(corner, ON, seen);
-            boolean overChosen = goer == WHICHEVER
-                ? overWait <= onWait
-                : town.ruleSaysOver(goer - FIRST_RULE, corner, overWait, onWait);
-            return overChosen ? OVER : ON;
         }
 
+        /**
+         * A period of the other clocks later only the watched one stands elsewhere: so what was reckoned for one
+         * of its stands serves for all those that such periods lead to.
+         */
         int worthOfWatching(int corner, int second) {
             int unwatched = valueAt(0, second);
+            int others = periods[0];
             int round = town.round[corner];
+            int apart = (int) commonDivisor(round, others);
+            if (apart < 1 || round < 1) {
+                return 0;
+            }
             int sum = 0;
             known |= 1L << corner;
-            for (int stand = 0; stand < round; stand++) {
+            findPeriods();
+            for (int stand = 0; stand < apart; stand++) {
                 ahead[corner] = stand;
                 values.clearBefore(corner);
-                sum += valueAt(0, second);
+                for (int later = 0; later < round / apart; later++) {
+                    sum += valueAt(0, second + later * others);
+                }
             }
             known &= ~(1L << corner);
+            findPeriods();
             ahead[corner] = 0;
             values.clearBefore(corner);
-            return round < 1 ? 0 : unwatched - sum / round;
+            return unwatched - sum / round;
         }
 
         int mostWorthWatching(int second) {
