@@ -8,6 +8,7 @@ public final class OverFirst {
     private static final int NOTHING = -2;
 
     private static final int LAST_SECOND = 1000000;
+    private static final int EVER = 0x7FFFFFFF;
     private static final int LAST_WAS_SECOND = 9999;
     private static final int LAST_TRIED_WAIT = 59;
     private static final int LONGEST_STAY = 1000;
@@ -149,7 +150,7 @@ public final class OverFirst {
             told.clear();
             state.clear();
             history.clear();
-            Arrays.fill(laid, false);
+            forgetMarks();
             forgetReckonings();
         }
         return fault;
@@ -164,6 +165,12 @@ public final class OverFirst {
             paces.forget();
         }
         return fault;
+    }
+
+    private void forgetMarks() {
+        for (int mark = 0; mark < laid.length; mark++) {
+            laid[mark] = false;
+        }
     }
 
     private void forgetReckonings() {
@@ -1781,7 +1788,7 @@ public final class OverFirst {
         /** bits are the ways gone, mask the corners been at, met the sightings that fitted. */
         private void trace(int corner, int second, int streets, long bits, long mask, int met) {
             if (corner == town.home()) {
-                int here = state.sightingsWithin(corner, second, Integer.MAX_VALUE);
+                int here = state.sightingsWithin(corner, second, EVER);
                 if (here != NONE && met + here == state.sightings) {
                     firstFitting = fitting == 0 ? bits : firstFitting;
                     fitting++;

@@ -14,6 +14,7 @@ final class PromiseTest {
         p02feed();
         p03town();
         p03townLines();
+        p03townAfterTown();
         p04walk();
         p05light();
         p06green();
@@ -152,6 +153,7 @@ final class PromiseTest {
         fault("town 2 2;rule for 1;", 1, 14);
         fault("town 2 2;rule police 1;", 1, 14);
         fault("town 2 2;rule 1 1;", 1, 14);
+        fault("town 2 2;rule abcdefghi 1;", 1, 14);
         good("town 2 2;rule left 1;rule up 2;rule wait 3;rule abcdefgh 4;");
         fault("town 2 2;rule left 1;rule left 2;", 3, 26);
         fault("town 2 2;rule a 1;rule b 1;rule c 1;rule d 1;rule e 1;", 5, 45);
@@ -179,6 +181,46 @@ final class PromiseTest {
         due("run as walk without", x.go(1, true), 20);
         x = Check.made("town 1 3;runs 1;walk 4;");
         due("run as walk", x.go(1, true), 4);
+    }
+
+    /** Nothing of an earlier town may be left, whichever of them is read into the same rows. */
+    private static void p03townAfterTown() {
+        OverFirst x = new OverFirst();
+        due("a walk in the first town", Check.walk(x, "over 0;"), 2);
+        String full = SQUARE + "rule a 0;child;";
+        for (int i = 0; i < 3; i++) {
+            due("full", Check.town(x, full), 0);
+            Check.walk(x, "over 0;over 9;");
+            x.go(0, false);
+            x.look();
+            x.tried(0, 1, true, 1);
+            x.was(1, 0, 3);
+            due("full pace", x.pace(0, 1), 10);
+            due("full lights", x.count(2), 4);
+            due("full rule", x.mean(4, 1, 1, 0), 10000);
+            due("a faulty one", Check.town(x, "town 1 1;bar 0 0 on;child 7;"), 1 + 16 * 26);
+            due("a walk in the town that holds", Check.walk(x, "over 0;over 9;on 20;"), 0);
+            due("bare", Check.town(x, "town 3 3;walk 4;runs 1;rule b 1;"), 0);
+            int[] counts = {3, 3, 0, 1, 0, 0, 0, 0, 1, 0, 0, 0, 1, 0, 0};
+            for (int what = 0; what < counts.length; what++) {
+                due("bare count(" + what + ")", x.count(what), counts[what]);
+            }
+            due("bare judged", x.judged(), -1);
+            due("bare pace", x.pace(0, 1), -1);
+            due("bare ways", x.fits(0), 6);
+            due("bare bars", x.light(0, 1, 5), 0);
+            due("bare rule", x.mean(4, 2, 1, 0), 4000);
+            due("bare rules", x.rules(), 0);
+            Check.walk(x, "on 0;over 4;");
+            due("run and slow as walk", x.pace(0, 1), 8);
+            due("run and slow as walk", x.pace(0, 2), 4);
+            due("a third", Check.town(x, "town 3 3;walk 4;slow 9;light 1 0 hidden round 9 over 0 for 9;"), 0);
+            due("a hidden one is not known", x.count(9), 1);
+            Check.walk(x, "over 0;");
+            due("its pace", x.pace(0, 1), 4);
+            Check.walk(x, "over 0;over 4;");
+            due("the pace of another walk", x.pace(0, 1), 8);
+        }
     }
 
     private static void walkFault(OverFirst x, String text, int kind, int place) {
@@ -344,8 +386,18 @@ final class PromiseTest {
         due("the first one stays", x.count(7), 1);
         x.go(0, true);
         x.look();
+        x.go(1, true);
+        x.go(1, false);
         x.tried(0, 1, true, 1);
         x.was(0, 0, 0);
+        x.undo();
+        due("back at 1 1", x.count(5) * 10 + x.count(6), 11);
+        due("no runs there", x.count(8), 0);
+        due("known there", x.light(1, 0, 4), 1);
+        x.undo();
+        due("back at 1 0", x.count(5) * 10 + x.count(6), 10);
+        due("one run there", x.count(8), 1);
+        due("still known", x.light(1, 0, 4), 1);
         x.undo();
         due("not known", x.light(1, 0, 4), 0);
         due("tried and was stay", x.count(10) + x.count(11), 2);
@@ -674,8 +726,32 @@ final class PromiseTest {
         x = Check.made("town 1 2;walk 5;light 0 0 clock round 10 over 5 for 5;light 0 1 clock round 10 over 5 for 5;");
         due("half a round away, both ways all fit", x.wave(0, 0, 2, true, 0), 10);
         due("green when the other isn't", x.wave(0, 0, 2, true, 1), 5);
+        p26waveAfterWave();
         Check.town(x, "town 1 2;walk 10;light 0 0 clock round 10 over 5 for 5;light 0 1 clock round 10 over 5 for 5;");
         due("asked anew in a new town", x.wave(0, 0, 2, true, 1), 0);
+    }
+
+    /** What was found for one row of lights may not be told of another. */
+    private static void p26waveAfterWave() {
+        StringBuilder rows = new StringBuilder("town 6 9;walk 3;");
+        for (int y = 0; y < 9; y++) {
+            for (int x = 0; x < 6; x += 2) {
+                rows.append("light" + x + " " + y + "clock round8over" + (y * y + x) % 8 + "for" + (3 * y + x) % 7 + ";");
+            }
+        }
+        String town = rows.toString();
+        OverFirst x = Check.made(town);
+        for (int corner = 0; corner < 54; corner++) {
+            for (int many = 2; many <= 4; many++) {
+                for (int both = 0; both < 2; both++) {
+                    OverFirst fresh = Check.made(town);
+                    for (int what = 0; what < many; what++) {
+                        due("wave " + corner % 6 + corner / 6 + many + both + what,
+                            x.wave(corner % 6, corner / 6, many, both == 1, what), fresh.wave(corner % 6, corner / 6, many, both == 1, what));
+                    }
+                }
+            }
+        }
     }
 
     private static void p27rules() {
@@ -801,11 +877,48 @@ final class PromiseTest {
         x.mark(3, false);
         x.mark(3, true);
         due("laid again", x.count(9), 1);
+        p31markHoldsAll();
         Check.town(x, "town 1 1;");
         due("no mark in a new town", x.mark(3, true), false);
         x.mark(1, false);
         Check.town(x, "town 0");
         due("a fault leaves it", x.mark(1, true), true);
+    }
+
+    private static void p31markHoldsAll() {
+        OverFirst x = Check.made("town 3 3;walk 5;run 2;runs 3;light 0 1 button round 9 over 5 for 0;light 1 1 button round 8 over 1 for 0;"
+            + "light 1 0 hidden round 4 over 0 for 2;");
+        x.go(0, true);
+        x.look();
+        x.go(1, true);
+        x.tried(0, 1, true, 5);
+        x.was(1, 0, 5);
+        x.mark(2, false);
+        Check.town(x, "town 0");
+        x.mark(1, false);
+        x.mark(1, true);
+        x.go(1, true);
+        x.tried(1, 1, true, 0);
+        x.was(0, 0, 1);
+        x.mark(1, false);
+        due("other ones", x.count(10) + x.count(11), 4);
+        x.mark(2, true);
+        x.tried(1, 1, true, 7);
+        x.was(2, 2, 9999);
+        int[] counts = {1, 1, 4, 1, 0, 2, 2};
+        for (int i = 0; i < counts.length; i++) {
+            due("mark 2, count(" + (5 + i) + ")", x.count(5 + i), counts[i]);
+        }
+        due("mark 2, does", x.does(1, 1, 0), 0);
+        due("mark 2, fits", x.fits(0), 3);
+        x.mark(1, true);
+        counts = new int[] {1, 2, 6, 0, 0, 2, 2};
+        for (int i = 0; i < counts.length; i++) {
+            due("mark 1, count(" + (5 + i) + ")", x.count(5 + i), counts[i]);
+        }
+        due("mark 1, does", x.does(1, 1, 0), 4);
+        due("mark 1, does", x.does(0, 1, 0), 3);
+        due("mark 1, fits", x.fits(0), 0);
     }
 
     private static void p32count() {
