@@ -1046,7 +1046,7 @@ public final class OverFirst {
             if (!isTimed(corner)) {
                 return 0;
             }
-            int since = modulo(second - start[corner], round[corner]);
+            int since = round[corner] > 0 ? Math.floorMod(second - start[corner], round[corner]) : 0;
             if (since < span[corner]) {
                 return way == OVER ? 0 : span[corner] - since;
             }
@@ -1413,7 +1413,7 @@ public final class OverFirst {
             }
             int value;
             if (hides(corner)) {
-                value = goer == BEST ? bestOverRound(corner, second) : valueOverRound(corner, second);
+                value = valueOverRound(corner, second);
             } else {
                 int seen = second + ahead[corner];
                 value = valueSeen(corner, second, town.waitFor(corner, OVER, seen), town.waitFor(corner, ON, seen));
@@ -1422,36 +1422,23 @@ public final class OverFirst {
             return value;
         }
 
+        /** One way is always green; what that takes the best one is the same at every such second. */
         private int valueOverRound(int corner, int second) {
             int round = town.round[corner];
             int span = town.span[corner];
+            int overNow = goer == BEST ? valueBy(corner, OVER, second, 0) : NONE;
+            int onNow = goer == BEST ? valueBy(corner, ON, second, 0) : NONE;
             int sum = 0;
             int most = 0;
             for (int since = 0; since < round; since++) {
-                int overWait = since < span ? 0 : round - since;
-                int onWait = since < span ? span - since : 0;
-                int value = valueSeen(corner, second, overWait, onWait);
-                if (value == NONE) {
-                    return NONE;
+                int value;
+                if (goer != BEST) {
+                    value = valueSeen(corner, second, since < span ? 0 : round - since, since < span ? span - since : 0);
+                } else if (since < span) {
+                    value = lesserBy(overNow, corner, ON, second, span - since);
+                } else {
+                    value = lesserBy(onNow, corner, OVER, second, round - since);
                 }
-                sum += value;
-                most = Math.max(most, value);
-            }
-            return atWorst || round < 1 ? most : sum / round;
-        }
-
-        /** One way is always green, and what that takes is the same at every such second. */
-        private int bestOverRound(int corner, int second) {
-            int round = town.round[corner];
-            int span = town.span[corner];
-            int overNow = valueBy(corner, OVER, second, 0);
-            int onNow = valueBy(corner, ON, second, 0);
-            int sum = 0;
-            int most = 0;
-            for (int since = 0; since < round; since++) {
-                int value = since < span
-                    ? lesserBy(overNow, corner, ON, second, span - since)
-                    : lesserBy(onNow, corner, OVER, second, round - since);
                 if (value == NONE) {
                     return NONE;
                 }

@@ -216,6 +216,10 @@ final class PromiseTest {
             due("run and slow as walk", x.pace(0, 2), 4);
             due("a third", Check.town(x, "town 3 3;walk 4;slow 9;light 1 0 hidden round 9 over 0 for 9;"), 0);
             due("a hidden one is not known", x.count(9), 1);
+            Check.town(x, "town 1 3;runs 2;");
+            x.go(1, true);
+            Check.town(x, "town 3 3;walk 4;slow 9;runs 2;light 1 0 hidden round 9 over 0 for 9;");
+            due("all runs again", x.count(8), 2);
             Check.walk(x, "over 0;");
             due("its pace", x.pace(0, 1), 4);
             Check.walk(x, "over 0;over 4;");
@@ -616,6 +620,8 @@ final class PromiseTest {
         due("second", x.odds(3, -1, 10), -1);
         due("goer", x.odds(4, 0, 10), -1);
         due("never home", Check.made("town 1 2;bar 0 0 on;").odds(0, 0, 10), -1);
+        x = Check.made("town 2 3;walk 5;bar 0 0 over;light 1 1 clock round 20 over 15 for 15;light 0 2 clock round 20 over 12 for 9;");
+        due("the best chooses by when he comes: over at 5, home at 15", x.odds(3, 0, 15), 1000000);
         due("home at once", new OverFirst().odds(0, 5, 5), 1000000);
         due("home at once, too late", new OverFirst().odds(0, 5, 4), 0);
     }
@@ -645,6 +651,9 @@ final class PromiseTest {
         x = Check.made("town 1 2;walk 5;run 6;slow 4;");
         Check.walk(x, "on 0;");
         due("run above slow: walk alone", x.pace(0, 2), 5);
+        x = Check.made("town 1 2;walk 5;run 3;runs 1;");
+        Check.walk(x, "on 0;");
+        due("slow as walk without", x.pace(0, 2), 3);
         x = Check.made("town 1 2;walk 9;run 3;slow 4;");
         Check.walk(x, "on 0;");
         due("no runs left for any street", x.pace(0, 0), -1);
@@ -878,8 +887,13 @@ final class PromiseTest {
         x.mark(3, true);
         due("laid again", x.count(9), 1);
         p31markHoldsAll();
+        for (int mark = 0; mark < 4; mark++) {
+            x.mark(mark, false);
+        }
         Check.town(x, "town 1 1;");
-        due("no mark in a new town", x.mark(3, true), false);
+        for (int mark = 0; mark < 4; mark++) {
+            due("no mark in a new town", x.mark(mark, true), false);
+        }
         x.mark(1, false);
         Check.town(x, "town 0");
         due("a fault leaves it", x.mark(1, true), true);
@@ -919,6 +933,24 @@ final class PromiseTest {
         due("mark 1, does", x.does(1, 1, 0), 4);
         due("mark 1, does", x.does(0, 1, 0), 3);
         due("mark 1, fits", x.fits(0), 0);
+        p31markAfterMark(Check.made("town 2 2;walk 5;light 0 0 button round 9 over 5 for 0;light 0 1 button round 7 over 5 for 0;"));
+    }
+
+    private static void p31markAfterMark(OverFirst x) {
+        x.mark(0, false);
+        x.tried(0, 1, true, 6);
+        x.was(0, 1, 5);
+        x.mark(1, false);
+        x.mark(0, true);
+        x.tried(0, 0, true, 5);
+        x.was(1, 0, 10);
+        due("what the mark does not hold", x.does(0, 0, 0), 3);
+        due("what the mark does not hold", x.fits(1), 2);
+        x.mark(1, true);
+        due("what was tried elsewhere is gone", x.does(0, 0, 0), 1);
+        due("what was tried is back", x.does(0, 1, 0), 0);
+        due("one way fits what is back", x.fits(0), 1);
+        due("that one", x.fits(1), 1);
     }
 
     private static void p32count() {
