@@ -492,6 +492,11 @@ public final class OverFirst {
         return second >= 0 && second <= LAST_SECOND;
     }
 
+    /** The lesser of two that may be NONE. */
+    private static int lesser(int a, int b) {
+        return a == NONE || b != NONE && b < a ? b : a;
+    }
+
     private static int modulo(int number, int divisor) {
         return divisor > 0 ? Math.floorMod(number, divisor) : 0;
     }
@@ -1363,6 +1368,9 @@ public final class OverFirst {
         private long known;
         private int goer;
         private boolean atWorst;
+        private int unit;
+        private int home;
+        private int street;
         private int setOut;
         private int deadline;
 
@@ -1379,13 +1387,15 @@ public final class OverFirst {
             known = knownLights;
             goer = who;
             atWorst = worst;
-            values.clear((town.home() + 1) * town.common);
+            unit = worst ? 1 : 1000;
+            home = town.home();
+            street = town.setting[WALKING];
+            values.clear((home + 1) * town.common);
             findPeriods();
         }
 
         /** From a corner on all is alike again once the clocks that one can come to stand as before; hidden ones don't count. */
         private void findPeriods() {
-            int home = town.home();
             periods[home] = 1;
             for (int corner = home - 1; corner >= 0; corner--) {
                 int period = town.isTimed(corner) && !hides(corner) ? town.round[corner] : 1;
@@ -1403,17 +1413,18 @@ public final class OverFirst {
         }
 
         int valueAt(int corner, int anySecond) {
-            if (corner == town.home()) {
+            if (corner == home) {
                 return 0;
             }
-            int second = modulo(anySecond, periods[corner]);
+            int period = periods[corner];
+            int second = period > 0 ? anySecond % period : 0;
             int cell = corner * town.common + second;
             if (values.holds(corner, cell)) {
                 return values.number(cell);
             }
             int value;
             if (hides(corner)) {
-                value = valueOverRound(corner, second);
+                value = goer == BEST ? bestOverRound(corner, second) : valueOverRound(corner, second);
             } else {
                 int seen = second + ahead[corner];
                 value = valueSeen(corner, second, town.waitFor(corner, OVER, seen), town.waitFor(corner, ON, seen));
@@ -1422,23 +1433,15 @@ public final class OverFirst {
             return value;
         }
 
-        /** One way is always green; what that takes the best one is the same at every such second. */
         private int valueOverRound(int corner, int second) {
             int round = town.round[corner];
             int span = town.span[corner];
-            int overNow = goer == BEST ? valueBy(corner, OVER, second, 0) : NONE;
-            int onNow = goer == BEST ? valueBy(corner, ON, second, 0) : NONE;
             int sum = 0;
             int most = 0;
             for (int since = 0; since < round; since++) {
-                int value;
-                if (goer != BEST) {
-                    value = valueSeen(corner, second, since < span ? 0 : round - since, since < span ? span - since : 0);
-                } else if (since < span) {
-                    value = lesserBy(overNow, corner, ON, second, span - since);
-                } else {
-                    value = lesserBy(onNow, corner, OVER, second, round - since);
-                }
+                int overWait = since < span ? 0 : round - since;
+                int onWait = since < span ? span - since : 0;
+                int value = valueSeen(corner, second, overWait, onWait);
                 if (value == NONE) {
                     return NONE;
                 }
@@ -1448,36 +1451,56 @@ public final class OverFirst {
             return atWorst || round < 1 ? most : sum / round;
         }
 
+        private int bestOverRound(int corner, int second) {
+            int round = town.round[corner];
+            int span = town.span[corner];
+            int whileOver = bestWhile(valueBy(corner, OVER, second, 0), corner, ON, second, span);
+            int whileOn = bestWhile(valueBy(corner, ON, second, 0), corner, OVER, second, round - span);
+            if (whileOver == NONE || whileOn == NONE) {
+                return NONE;
+            }
+            return atWorst || round < 1 ? Math.max(whileOver, whileOn) : (whileOver + whileOn) / round;
+        }
+
+        /** All (or the most) over the seconds at which one way is green, the other one being so from 1 to so many later. */
+        private int bestWhile(int green, int corner, int later, int second, int seconds) {
+            int all = 0;
+            int least = leastFrom(corner);
+            for (int wait = 1; wait <= seconds; wait++) {
+                if (green != NONE && green <= least + wait * unit) {
+                    return atWorst ? Math.max(all, green) : all + (seconds - wait + 1) * green;
+                }
+                int value = lesser(green, valueBy(corner, later, second, wait));
+                if (value == NONE) {
+                    return NONE;
+                }
+                all = atWorst ? Math.max(all, value) : all + value;
+            }
+            return all;
+        }
+
+        /** What the streets alone take: a way that has to be waited for needn't be reckoned if even so it is no less. */
+        private int leastFrom(int corner) {
+            return town.streetsHome(corner) * street * unit;
+        }
+
         private int valueSeen(int corner, int second, int overWait, int onWait) {
             if (goer == BEST) {
                 int over = valueBy(corner, OVER, second, overWait);
-                return lesserBy(over, corner, ON, second, onWait);
+                boolean enough = over != NONE && over <= leastFrom(corner) + onWait * unit;
+                return enough ? over : lesser(over, valueBy(corner, ON, second, onWait));
             }
             int way = plainWay(corner, overWait, onWait);
             return valueBy(corner, way, second, way == OVER ? overWait : onWait);
-        }
-
-        /** What another way takes, if it is less; where the streets alone would make it no less it isn't reckoned. */
-        private int lesserBy(int found, int corner, int way, int second, int wait) {
-            int least = wait + town.streetsHome(corner) * town.setting[WALKING];
-            if (found != NONE && found <= least * unit()) {
-                return found;
-            }
-            int other = valueBy(corner, way, second, wait);
-            return found == NONE || other != NONE && other < found ? other : found;
         }
 
         private int valueBy(int corner, int way, int second, int wait) {
             if (!town.isOpen(corner, way)) {
                 return NONE;
             }
-            int spent = wait + town.setting[WALKING];
+            int spent = wait + street;
             int rest = valueAt(town.after(corner, way), second + spent);
-            return rest == NONE ? NONE : rest + spent * unit();
-        }
-
-        private int unit() {
-            return atWorst ? 1 : 1000;
+            return rest == NONE ? NONE : rest + spent * unit;
         }
 
         int wayOf(int corner, int second, int seen) {
@@ -1555,7 +1578,7 @@ public final class OverFirst {
         int chanceOf(int second, int by) {
             setOut = second;
             deadline = by;
-            chances.clear((town.home() + 1) * LONGEST_WAY);
+            chances.clear((home + 1) * LONGEST_WAY);
             return chanceAt(0, 0);
         }
 
@@ -1563,7 +1586,7 @@ public final class OverFirst {
             if (setOut + spent > deadline || spent >= LONGEST_WAY) {
                 return 0;
             }
-            if (corner == town.home()) {
+            if (corner == home) {
                 return MILLION;
             }
             int cell = corner * LONGEST_WAY + spent;
@@ -1591,7 +1614,7 @@ public final class OverFirst {
             if (way == NONE) {
                 return 0;
             }
-            int more = town.waitFor(corner, way, seen) + town.setting[WALKING];
+            int more = town.waitFor(corner, way, seen) + street;
             return chanceAt(town.after(corner, way), spent + more);
         }
 
@@ -1622,13 +1645,13 @@ public final class OverFirst {
         private int walkHome() {
             int corner = 0;
             int second = 0;
-            for (int street = 0; street < MOST_STREETS && corner != town.home(); street++) {
+            for (int gone = 0; gone < MOST_STREETS && corner != home; gone++) {
                 int seen = second + drawn[corner];
                 int way = wayOf(corner, second, seen);
                 if (way == NONE) {
                     return second;
                 }
-                second += town.waitFor(corner, way, seen) + town.setting[WALKING];
+                second += town.waitFor(corner, way, seen) + street;
                 corner = town.after(corner, way);
             }
             return second;
@@ -1664,16 +1687,12 @@ public final class OverFirst {
         private void pass(int corner, int way) {
             if (town.isOpen(corner, way)) {
                 int next = town.after(corner, way);
-                arrivals[next] = sooner(arrivals[next], afterStreet(corner, way, arrivals[corner]));
+                arrivals[next] = lesser(arrivals[next], afterStreet(corner, way, arrivals[corner]));
             }
         }
 
         private int afterStreet(int corner, int way, int second) {
             return second + town.waitFor(corner, way, second) + town.setting[WALKING];
-        }
-
-        private static int sooner(int a, int b) {
-            return a == NONE || b != NONE && b < a ? b : a;
         }
 
         int soonestWay(Town where, int from, int second, int which) {
@@ -1734,8 +1753,8 @@ public final class OverFirst {
             }
             int soonest = NONE;
             for (int turns = 0; turns <= often; turns++) {
-                soonest = sooner(soonest, turned[turnedCell(home, OVER, turns)]);
-                soonest = sooner(soonest, turned[turnedCell(home, ON, turns)]);
+                soonest = lesser(soonest, turned[turnedCell(home, OVER, turns)]);
+                soonest = lesser(soonest, turned[turnedCell(home, ON, turns)]);
             }
             return soonest;
         }
@@ -1755,7 +1774,7 @@ public final class OverFirst {
         private void passTurning(int corner, int way, int second, int turns) {
             if (town.isOpen(corner, way)) {
                 int cell = turnedCell(town.after(corner, way), way, turns);
-                turned[cell] = sooner(turned[cell], afterStreet(corner, way, second));
+                turned[cell] = lesser(turned[cell], afterStreet(corner, way, second));
             }
         }
 

@@ -13,7 +13,9 @@ final class OracleTest {
         Random r = new Random(seed);
         int made = 0;
         for (int i = 0; made < towns && i < 10 * towns; i++) {
-            Oracle o = i % 3 == 0 ? Oracle.random(r, 3, 4, 9) : i % 3 == 1 ? Oracle.random(r, 2, 5, 20) : Oracle.random(r, 5, 5, 4);
+            int[][] sizes = {{3, 4, 9}, {2, 5, 20}, {5, 5, 4}, {3, 3, 60}};
+            int[] size = sizes[i % sizes.length];
+            Oracle o = Oracle.random(r, size[0], size[1], size[2]);
             String text = o.text();
             if (text.length() <= 1000) {
                 made++;
