@@ -602,8 +602,8 @@ final class TextEdges extends Edges {
         due("left is not 6", made(wide + "(left=6);").mean(4, 0, 0, 0), -1);
         due("up is not 9", made(wide + "(up=9);").mean(4, 0, 0, 0), -1);
         String near = "town 6 9;walk 1;bar 5 7 on;rule a ";
-        due("left at 4 7 is 1", made(near + "left*1=0;").mean(4, 4, 7, 0), 2000);
-        due("up at 4 7 is 1", made(near + "up-1;").mean(4, 4, 7, 0), 2000);
+        due("left at 4 7 is 1", made(near + "not(left=1);").mean(4, 4, 7, 0), 2000);
+        due("up at 4 7 is 1", made(near + "not(up=1);").mean(4, 4, 7, 0), 2000);
     }
 
     private void truth() {

@@ -37,6 +37,7 @@ final class TownEdges extends Edges {
         paces();
         paceRuns();
         paceOfEqualOnes();
+        paceByLights();
         triedTen();
         doesIt();
         waves();
@@ -410,6 +411,7 @@ final class TownEdges extends Edges {
         due("2 at 9: on", x.mean(2, 0, 0, 9), 12000);
         due("4 at 4: over", x.mean(4, 0, 0, 4), 16000);
         due("5 at 0: on", x.mean(5, 0, 0, 0), 16000);
+        goersAtHidden();
         String dead = "town 2 2;walk 5;bar 1 0 on;";
         due("over if alike: none has a light", made(dead).mean(2, 0, 0, 0), -1);
         due("over if alike: a button of 0", made(dead + "light 0 0 button round 3 over 0 for 0;").mean(2, 0, 0, 0), -1);
@@ -420,6 +422,18 @@ final class TownEdges extends Edges {
             due("over is never green", made("town 2 2;walk 5;light 0 0 hidden round 2 over 0 for 0;rule a 1;rule b 0;").mean(goer, 0, 0, 0), 10000);
             due("on is never green", made("town 2 2;walk 5;light 0 0 hidden round 2 over 0 for 2;rule a 1;rule b 0;").mean(goer, 0, 0, 0), 10000);
             due("nor on", made("town 2 2;walk 5;bar 0 0 on;bar 0 0 over;rule a 1;rule b 0;").mean(goer, 0, 0, 0), -1);
+        }
+    }
+
+    /** Over is green at seconds 0 and 1 of 5; who goes on stands 3 seconds more at 0 1. */
+    private void goersAtHidden() {
+        OverFirst x = made("town 2 2;walk 5;light 0 0 hidden round 5 over 0 for 2;light 0 1 button round 9 over 3 for 0;rule a over<on;rule b on<over;");
+        int[] means = {10000 + (3 + 2 + 1) * 1000 / 5, 13000 + (2 + 1) * 1000 / 5, (2 * 10 + 3 * 13) * 1000 / 5, (2 * 10 + 13 + 12 + 11) * 1000 / 5,
+            (2 * 10 + 3 * 13) * 1000 / 5, (15 + 14 + 13 + 12 + 11) * 1000 / 5};
+        int[] worsts = {13, 15, 13, 13, 13, 15};
+        for (int goer = 0; goer < means.length; goer++) {
+            due("MEAN of " + goer + " at a hidden light", x.mean(goer, 0, 0, 7), means[goer]);
+            due("WORST of " + goer + " at a hidden light", x.worst(goer, 0, 0, 7), worsts[goer]);
         }
     }
 
@@ -509,6 +523,23 @@ final class TownEdges extends Edges {
         two.go(0, false);
         two.look();
         due("KNOWN", two.watch(1, 0, 0), -1);
+        watchesWithClocks();
+    }
+
+    private void watchesWithClocks() {
+        OverFirst x = made("town 2 2;walk 5;light 1 0 hidden round 3 over 0 for 2;light 0 1 clock round 4 over 0 for 2;");
+        for (int second = 0; second < 12; second++) {
+            // the clock's wait is 1: then waits of 2, 1 and 0 are 1, 1 and 0, if one knows
+            due("by where the clock stands as one comes", x.watch(1, 0, second), (second + 5) % 4 == 3 ? 11000 - 32000 / 3 : 0);
+        }
+        OverFirst alike = made("town 2 2;walk 5;light 1 0 hidden round 4 over 0 for 2;light 0 1 clock round 4 over 0 for 2;");
+        due("the clock's wait is 2: the hidden one's is 0, 0, 1, 2", alike.watch(1, 0, 1), 0);
+        alike.worthiest(1);
+        alike.go(0, false);
+        alike.look();
+        for (int second = 0; second < 8; second++) {
+            due("as told once it is KNOWN, whatever was watched", alike.mean(3, 0, 0, second), 10000);
+        }
     }
 
     /** Two hidden ones of round 3 whose on is green in two seconds of three, then a clock of which it is known where it stands. */
@@ -547,8 +578,9 @@ final class TownEdges extends Edges {
             best = cut.watch(0, y, 0) > cut.watch(0, 1 + best, 0) ? y - 1 : best;
         }
         due("most, be it below 0", cut.worthiest(0), 8 * (1 + best));
-        OverFirst under = made("town 1 3;walk 1;light 0 0 hidden round 3 over 0 for 1;light 0 2 hidden round 7 over 0 for 1;");
-        due("HOME's, too", under.worthiest(0) == 0 || under.worthiest(0) == 16, true);
+        due("at 0 0", made("town 1 2;light 0 0 hidden round 4 over 0 for 2;").worthiest(0), 0);
+        due("at 0 0 and at HOME, both worth nothing", made("town 1 2;light 0 1 hidden round 4 over 0 for 2;light 0 0 hidden round 4 over 0 for 2;").worthiest(0), 0);
+        due("at HOME", made("town 1 2;light 0 1 hidden round 4 over 0 for 2;").worthiest(0), 8);
         OverFirst known = made(even);
         known.go(0, false);
         known.look();
@@ -573,6 +605,16 @@ final class TownEdges extends Edges {
         due("HOME at once", new OverFirst().odds(3, 9, 9), 1000000);
         due("HOME at once, too late", new OverFirst().odds(3, 9, 8), 0);
         due("HOME at the last second", new OverFirst().odds(3, LAST, LAST), 1000000);
+        OverFirst clock = made("town 1 3;walk 5;light 0 0 hidden round 4 over 0 for 2;light 0 1 clock round 20 over 0 for 8;");
+        due("at the clock at 9, 8, 7 and 7: three of four", clock.odds(3, 2, 13), 750000);
+        due("all by 14", clock.odds(3, 2, 14), 1000000);
+        due("none by 12", clock.odds(3, 2, 12), 0);
+        due("from 0 all wait for the clock", clock.odds(3, 0, 13), 1000000);
+        OverFirst when = made("town 2 3;walk 5;bar 0 0 over;light 1 1 clock round 20 over 15 for 15;light 0 2 clock round 20 over 12 for 9;");
+        due("at 0 1 at 5: over, green on at 10", when.odds(3, 0, 15), 1000000);
+        due("at 0 1 at 10: on, green over at 15", when.odds(3, 5, 20), 1000000);
+        due("no sooner", when.odds(3, 5, 19), 0);
+        due("a round of 1", made("town 1 2;light 0 0 hidden round 1 over 0 for 0;").odds(3, 0, 10), 1000000);
     }
 
     private void pace(OverFirst x, int second, int... dues) {
@@ -647,6 +689,21 @@ final class TownEdges extends Edges {
         pace(walked("town 1 4;walk 5;run 3;slow 7;runs 1;light 0 2 clock round 60 over 0 for 10;", "on 0;on 0;on 0;"), 0, 0, 13, 5, 5, 3);
         due("never GREEN", walked("town 1 2;light 0 0 clock round 9 over 0 for 9;", "on 0;").pace(0, 0), -1);
         due("never GREEN further on", walked("town 1 3;light 0 1 clock round 9 over 0 for 9;", "on 0;on 0;").pace(0, 1), -1);
+    }
+
+    /** Whichever runs one has used, and however one stands, each corner's light is met at its own second. */
+    private void paceByLights() {
+        String first = "town 1 4;walk 5;light 0 0 clock round 12 over 0 for 3;";
+        pace(walked(first + "light 0 1 clock round 12 over 0 for 8;", "on 0;on 0;on 0;"), 0, 1, 18, 5, 5, 5);
+        pace(walked(first + "slow 9;light 0 1 clock round 12 over 6 for 4;light 0 2 clock round 12 over 5 for 11;", "on 0;on 0;on 0;"), 0, 1, 21, 7, 6, 5);
+        pace(walked("town 1 4;walk 5;run 4;runs 1;light 0 2 clock round 6 over 5 for 5;", "on 0;on 0;on 0;"), 0, 0, 14, 5, 5, 4);
+        String far = "on0;on0;on0;on0;on0;on0;on0;on0;over0;over0;over0;over0;over0;";
+        for (int round = 11; round <= 20; round++) {
+            String town = "town 6 9;walk 5;run 4;runs 9;light 2 8 clock round " + round + " over " + 50 % round + " for 1;";
+            // green at 50 alone: ten streets are walked, the last three run
+            pace(walked(town, far), 0, 0, 62, 5, 5, 5, 5, 5, 5, 5, 5, 5, 5, 4, 4, 4);
+        }
+        pace(walked("town 6 9;walk 5;run 4;runs 9;", far), 0, 0, 56, 4, 4, 4, 4, 4, 4, 4, 4, 4, 5, 5, 5, 5);
     }
 
     private void triedTen() {
@@ -745,6 +802,8 @@ final class TownEdges extends Edges {
         due("one behind the other over is none", made("town 2 1;light 0 0 clock round 10 over 0 for 6;light 1 0 clock round 10 over 0 for 6;").wave(0, 0, 2, false, 0), -1);
         OverFirst nine = made("town 1 9;walk 1;light 0 5 clock round 4 over 0 for 2;light 0 6 clock round 4 over 0 for 2;light 0 7 clock round 4 over 0 for 2;light 0 8 clock round 4 over 0 for 2;");
         wave("to the last row", nine, 0, 5, 4, false, 2, 3, 0, 1);
+        due("of five that are there", made("town 1 9;walk 1;light 0 4 clock round 4 over 0 for 2;light 0 5 clock round 4 over 0 for 2;light 0 6 clock round 4 over 0 for 2;"
+            + "light 0 7 clock round 4 over 0 for 2;light 0 8 clock round 4 over 0 for 2;").wave(0, 4, 5, false, 0), -1);
         due("beyond it", nine.wave(0, 6, 4, false, 0), -1);
     }
 
@@ -755,6 +814,14 @@ final class TownEdges extends Edges {
         wave("a round away: all fit both ways", made("town 1 2;walk 10;" + two), 0, 0, 2, true, 10, 0);
         wave("there alone", made("town 1 2;walk 2;" + two), 0, 0, 2, false, 5, 2);
         wave("two away: 5 and 1 or 3 and 3 or 1 and 5", made("town 1 2;walk 2;" + two), 0, 0, 2, true, 6, 0);
+        OverFirst x = made("town 2 3;walk 2;light 0 0 clock round 10 over 8 for 5;light 0 1 clock round 10 over 0 for 5;light 0 2 clock round 10 over 0 for 9;"
+            + "light 1 0 clock round 10 over 8 for 6;light 1 1 clock round 10 over 0 for 6;");
+        wave("there", x, 0, 0, 2, false, 5, 5);
+        wave("both", x, 0, 0, 2, true, 6, 1);
+        wave("there again", x, 0, 0, 2, false, 5, 5);
+        wave("three, the last one green for a second", x, 0, 0, 3, false, 1, 1, 7);
+        wave("the next column", x, 1, 0, 2, false, 4, 6);
+        wave("three, again", x, 0, 0, 3, false, 1, 1, 7);
         wave("three rounds of one", made("town 1 3;walk 30;light 0 0 hidden round 1 over 0 for 0;light 0 1 hidden round 1 over 0 for 0;light 0 2 hidden round 1 over 0 for 0;"),
             0, 0, 3, true, 2, 0, 0);
     }
@@ -785,6 +852,9 @@ final class TownEdges extends Edges {
         OverFirst x = made(town + "rule a 1;rule b 0;");
         x.go(0, false);
         due("from 0 0 at second 0 wherever one is", x.rules(), 1);
+        String soon = "town 2 2;walk 5;light 1 0 clock round 20 over 6 for 14;light 0 1 button round 9 over 1 for 0;rule a 1;rule b 0;";
+        due("at second 0: green on at 5, 10 against 11", made(soon).rules(), 0);
+        due("at second 1 it would be 24", made(soon).mean(4, 0, 0, 1), 24000);
         String barred = "town 2 2;walk 5;bar 1 0 on;";
         due("one has no MEAN", made(barred + "rule a 1;rule b 0;").rules(), 1);
         due("none has", made(barred + "rule a 1;rule b 1;").rules(), -1);
@@ -925,6 +995,9 @@ final class TownEdges extends Edges {
         due("wherever one is; 1 0 is KNOWN, at 5: 45 to wait", x.nights(1, 2, 0, 0), 110);
         stand = (5 + drawn(1, 60)[0]) % 60;
         due("so 0 1 has the first DRAW", x.nights(1, 1, 1, 0), 10 + (stand < 10 ? 0 : 60 - stand));
+        due("from second 0, when over is green and he is left", made("town 2 2;bar 1 0 on;light 0 0 clock round 10 over 0 for 1;").nights(1, 1, 2, 0), -1);
+        due("from second 0, when on is green", made("town 2 2;bar 1 0 on;light 0 0 clock round 10 over 1 for 9;").nights(1, 1, 2, 0), 20);
+        due("no seconds, the longest", new OverFirst().nights(1, 3, 0, 1), 0);
         OverFirst best = made("town 2 2;walk 5;light 1 0 hidden round 60 over 0 for 10;light 0 1 button round 60 over 5 for 0;");
         for (int seed = 0; seed < 9; seed++) {
             stand = (5 + drawn(seed, 60)[0]) % 60;
@@ -966,6 +1039,30 @@ final class TownEdges extends Edges {
         x.stay(1);
         due("laying one leaves what can be undone", x.mark(0, false) && x.count(13) == 1, true);
         due("UNDO", x.undo(), true);
+        marksHoldWhatWasTold();
+    }
+
+    private void marksHoldWhatWasTold() {
+        OverFirst x = made("town 2 2;walk 5;light 0 0 button round 8 over 3 for 0;light 0 1 button round 8 over 3 for 0;");
+        x.mark(0, false);
+        x.tried(0, 0, true, 3);
+        x.was(0, 1, 5);
+        x.mark(1, false);
+        x.mark(0, true);
+        x.tried(0, 1, true, 4);
+        x.was(1, 0, 8);
+        x.mark(2, false);
+        x.mark(0, true);
+        x.tried(0, 0, false, 3);
+        x.was(0, 1, 4);
+        x.mark(3, false);
+        for (int mark : new int[] {1, 2, 3, 2, 1, 3, 1}) {
+            due("back to " + mark, x.mark(mark, true), true);
+            doesIs("mark " + mark + ", 0 0", x, 0, 0, mark == 1 ? 2 : 1, mark == 1 ? 3 : 2);
+            doesIs("mark " + mark + ", 0 1", x, 0, 1, mark == 2 ? 0 : 1, mark == 2 ? 1 : 2);
+            due("mark " + mark + ", how many fit", x.fits(0), mark == 3 ? 0 : 1);
+            due("mark " + mark + ", the first", x.fits(1), mark == 3 ? -1 : mark);
+        }
     }
 
     private static int[] counts(OverFirst x) {
