@@ -1028,6 +1028,19 @@ public final class OverFirst {
             return wide - 1 - corner % WIDEST + high - 1 - corner / WIDEST;
         }
 
+        /** No way takes longer: as if one waited at every corner as long as one can at any. */
+        int longestWay() {
+            int wait = 0;
+            for (int corner = 0; corner < CORNERS; corner++) {
+                if (isTimed(corner)) {
+                    wait = Math.max(wait, round[corner] - 1);
+                } else if (kind[corner] == BUTTON) {
+                    wait = Math.max(wait, start[corner]);
+                }
+            }
+            return streetsHome(0) * (wait + setting[WALKING]);
+        }
+
         boolean isBeyond(int corner, int way) {
             return way == OVER ? corner % WIDEST >= wide - 1 : corner / WIDEST >= high - 1;
         }
@@ -1351,8 +1364,6 @@ public final class OverFirst {
     /** What goers take who see a hidden light's clock only as they come there. */
     private static final class Goers {
         private static final int MILLION = 1000000;
-        /** Above what any way can take: 13 waits of 59 and streets of 30 seconds. */
-        private static final int LONGEST_WAY = 1200;
 
         int allNights;
         int longestNight;
@@ -1373,6 +1384,8 @@ public final class OverFirst {
         private int street;
         private int setOut;
         private int deadline;
+        /** Above what any way of the town can take. */
+        private int tooLong;
 
         void forget() {
             asked = false;
@@ -1578,18 +1591,19 @@ public final class OverFirst {
         int chanceOf(int second, int by) {
             setOut = second;
             deadline = by;
-            chances.clear((home + 1) * LONGEST_WAY);
+            tooLong = town.longestWay() + 1;
+            chances.clear((home + 1) * tooLong);
             return chanceAt(0, 0);
         }
 
         private int chanceAt(int corner, int spent) {
-            if (setOut + spent > deadline || spent >= LONGEST_WAY) {
+            if (setOut + spent > deadline || spent >= tooLong) {
                 return 0;
             }
             if (corner == home) {
                 return MILLION;
             }
-            int cell = corner * LONGEST_WAY + spent;
+            int cell = corner * tooLong + spent;
             if (chances.holds(corner, cell)) {
                 return chances.number(cell);
             }
@@ -1829,7 +1843,6 @@ public final class OverFirst {
     private static final class Pace {
         /** Worth more than any seconds, so that fewer stands always come first. */
         private static final int STAND = 10000;
-        private static final int RUN_COUNTS = MOST_RUNS + 1;
 
         int stands;
         int end;
@@ -1838,6 +1851,7 @@ public final class OverFirst {
         private final Memo costs = new Memo();
         private Town town;
         private Walk walk;
+        private int allowed;
         private int solvedFor = NONE;
         private boolean can;
 
@@ -1852,7 +1866,8 @@ public final class OverFirst {
             solvedFor = second;
             town = where;
             walk = along;
-            costs.clear(walk.count * RUN_COUNTS * town.common);
+            allowed = town.child ? 0 : town.setting[RUNS];
+            costs.clear(walk.count * (allowed + 1) * town.common);
             int cost = costFrom(0, 0, modulo(second, town.common));
             can = cost != NONE;
             if (can) {
@@ -1875,7 +1890,7 @@ public final class OverFirst {
             if (line >= walk.count) {
                 return 0;
             }
-            int cell = (line * RUN_COUNTS + runs) * town.common + second;
+            int cell = (line * (allowed + 1) + runs) * town.common + second;
             if (costs.holds(0, cell)) {
                 return costs.number(cell);
             }
@@ -1892,7 +1907,6 @@ public final class OverFirst {
         }
 
         private int costBy(int line, int runs, int second, int street) {
-            int allowed = town.child ? 0 : town.setting[RUNS];
             int run = street < town.setting[WALKING] ? runs + 1 : runs;
             if (run > allowed || !town.isOpen(walk.corners[line], walk.ways[line])) {
                 return NONE;

@@ -17,7 +17,19 @@ final class RoomTest {
         askAll(x, 25);
         long later = made();
         CHECK.due("bytes of 475 calls more stay under 4 KiB: " + (later - first), later - first < 4096, true);
+        small();
+        small();
         CHECK.end();
+    }
+
+    /** A town of few corners and short rounds needs short tables. */
+    private static void small() {
+        long before = made();
+        OverFirst x = Check.made("town 2 3;walk 5;run 3;runs 1;light 0 0 clock round 10 over 0 for 4;light 0 1 hidden round 4 over 0 for 2;rule a 1;");
+        Check.walk(x, "on0;on9;over14;");
+        askAll(x, 5);
+        long bytes = made() - before;
+        CHECK.due("bytes of an object with a small town stay under 80 KiB: " + bytes, bytes < 81920, true);
     }
 
     private static long made() {

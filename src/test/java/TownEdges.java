@@ -615,6 +615,14 @@ final class TownEdges extends Edges {
         due("at 0 1 at 10: on, green over at 15", when.odds(3, 5, 20), 1000000);
         due("no sooner", when.odds(3, 5, 19), 0);
         due("a round of 1", made("town 1 2;light 0 0 hidden round 1 over 0 for 0;").odds(3, 0, 10), 1000000);
+        OverFirst longest = made("town 1 2;walk 30;light 0 0 hidden round 60 over 7 for 59;");
+        due("the longest wait", longest.odds(3, 4, 4 + 89), 1000000);
+        due("all but the longest", longest.odds(3, 4, 4 + 88), 59 * 1000000 / 60);
+        OverFirst buttons = made("town 6 1;walk 30;light0 0button round60over59for0;light1 0button round60over59for0;light2 0button round60over59for0;"
+            + "light3 0button round60over59for0;light4 0button round60over59for0;");
+        due("the longest wait at each CORNER", buttons.odds(3, 0, 445), 1000000);
+        due("a second less", buttons.odds(3, 0, 444), 0);
+        due("no lights, the longest streets", made("town 6 9;walk 30;").odds(0, 0, 390), 1000000);
     }
 
     private void pace(OverFirst x, int second, int... dues) {
