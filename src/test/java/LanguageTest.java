@@ -1,4 +1,7 @@
 import java.io.IOException;
+import java.lang.reflect.Field;
+import java.lang.reflect.Method;
+import java.lang.reflect.Modifier;
 import java.nio.file.Files;
 import java.nio.file.Path;
 import java.util.HashSet;
@@ -9,6 +12,9 @@ import java.util.regex.Pattern;
 /** What of LANGUAGE.md can be seen in the source's text. */
 final class LanguageTest {
     private static final Check CHECK = new Check();
+    private static final Pattern LIBRARY = Pattern.compile("java/lang/Object\\.\"<init>\".*|java/lang/(Math|Long|Integer)\\.(?!.*Exact).*|"
+        + "java/lang/String\\.(length|charAt|isEmpty|equals|indexOf|substring|toCharArray)\\(.*|java/lang/System\\.arraycopy.*|"
+        + "java/util/Arrays\\.(copyOf|copyOfRange|fill)\\(.*");
 
     public static void main(String[] args) throws IOException {
         String path = System.getProperty("overfirst.source", "src/main/java/OverFirst.java");
@@ -31,6 +37,8 @@ final class LanguageTest {
         count("classes inside that aren't private static final", code, "(?m)^ ++(?!private static final class).*\\bclass [A-Z]", 0, 0);
         count("static fields that aren't final", code, "\\bstatic (?!final\\b)[a-zA-Z\\[\\]]+ [a-zA-Z]+( =|;)", 0, 0);
         methods(code);
+        fields();
+        calls();
         CHECK.end();
     }
 
@@ -59,5 +67,47 @@ final class LanguageTest {
         }
         CHECK.due("methods of the face, the constructor too", face.size(), 32);
         CHECK.due("other methods are seen", others.size() > 50, true);
+    }
+
+    private static void fields() {
+        fields(OverFirst.class);
+        for (Class<?> inside : OverFirst.class.getDeclaredClasses()) {
+            fields(inside);
+        }
+    }
+
+    private static void fields(Class<?> type) {
+        int own = 0;
+        for (Field field : type.getDeclaredFields()) {
+            boolean constant = Modifier.isStatic(field.getModifiers());
+            own += constant ? 0 : 1;
+            CHECK.due(type + "'s static field is final: " + field.getName(), !constant || Modifier.isFinal(field.getModifiers()), true);
+            CHECK.due(type + "'s field may be seen: " + field.getName(), type != OverFirst.class || Modifier.isPrivate(field.getModifiers())
+                || field.getName().equals("NONE"), true);
+        }
+        CHECK.due(type + " has " + own + " fields", own <= 20, true);
+    }
+
+    private static void calls() {
+        CallGraph graph = CallGraph.of(OverFirst.class);
+        if (graph == null) {
+            System.out.println("no javap here: how deep calls go is not tested");
+            return;
+        }
+        CHECK.due("methods are seen in the compiled class: " + graph.methods(), graph.methods() > 150, true);
+        Set<String> face = new HashSet<>();
+        for (Method method : OverFirst.class.getDeclaredMethods()) {
+            if (Modifier.isPublic(method.getModifiers())) {
+                face.add("OverFirst." + method.getName());
+            }
+        }
+        face.add("OverFirst.\"<init>\"");
+        for (String method : graph.all()) {
+            CHECK.due(method + " goes " + graph.depth(method) + " calls deep", graph.depth(method) <= 8, true);
+        }
+        CHECK.due("methods that nothing calls: " + graph.idle(face), graph.idle(face).isEmpty(), true);
+        for (String called : graph.library) {
+            CHECK.due("called of the library: " + called, LIBRARY.matcher(called).matches(), true);
+        }
     }
 }
